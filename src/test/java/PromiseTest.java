@@ -2,6 +2,7 @@ import java.lang.reflect.Constructor;
 import java.lang.reflect.Field;
 import java.lang.reflect.Method;
 import java.lang.reflect.Modifier;
+import java.time.LocalDate;
 import java.util.Set;
 import java.util.TreeSet;
 
@@ -160,6 +161,13 @@ public final class PromiseTest {
         due("2024-02-29", w.dayText(8825));
         due("2009-10-09", w.dayText(w.day(2009, 10, 9)));
         due("2099-12-31", w.dayText(LAST));
+        for (int day = 0; day <= LAST; day++) {
+            LocalDate date = LocalDate.of(2000, 1, 1).plusDays(day);
+            due(date.toString(), w.dayText(day));
+            due(date.getDayOfWeek().getValue() - 1, w.ofDay(day, 3));
+            due(date.getDayOfYear(), w.ofDay(day, 4));
+            due(date.lengthOfMonth(), w.ofDay(day, 5));
+        }
         refused(INDEX, w, () -> w.dayText(-1));
         refused(INDEX, w, () -> w.dayText(LAST + 1));
         refused(INDEX, w, () -> w.dayText(MOST));
@@ -195,6 +203,10 @@ public final class PromiseTest {
         due(1, w.between(from, to, 2));
         due(0, w.between(from, w.day(2000, 2, 29), 1));
         due(29, w.between(from, w.day(2000, 2, 29), 2));
+        due(9, w.between(w.day(2000, 5, 31), w.day(2001, 3, 30), 1));
+        due(30, w.between(w.day(2000, 5, 31), w.day(2001, 3, 30), 2));
+        due(2, w.between(w.day(2020, 2, 29), w.day(2022, 3, 1), 0));
+        due(1, w.between(w.day(2020, 2, 29), w.day(2022, 3, 1), 2));
         due(0, w.between(7, 7, 0));
         due(0, w.between(7, 7, 1));
         due(0, w.between(7, 7, 2));
@@ -274,7 +286,8 @@ public final class PromiseTest {
         due("place 1 1 -8 0 36524 540 60 1 0", w.text(3));
         due("year 1 1231 0 0 36524 540 60 1 0", w.text(4));
         due("easter 1 240 0 0 36524 540 60 1 0", w.text(5));
-        int[][] bad = {{6, 1, 0, 0, 0}, {-1, 1, 0, 0, 0}, {0, 0, 0, 0, 0}, {0, 61, 0, 0, 0}, {0, 1, 1, 0, 0}, {0, 1, 0, 1, 0},
+        int[][] bad = {{4, 1, 200, 0, 0}, {4, 1, 1200, 0, 0},
+            {6, 1, 0, 0, 0}, {-1, 1, 0, 0, 0}, {0, 0, 0, 0, 0}, {0, 61, 0, 0, 0}, {0, 1, 1, 0, 0}, {0, 1, 0, 1, 0},
             {1, 1, 0, 0, 0}, {1, 1, 128, 0, 0}, {1, 1, 1, 1, 0}, {2, 1, 0, 0, 0}, {2, 1, 32, 0, 0}, {2, 1, -32, 0, 0},
             {2, 1, 1, 2, 0}, {2, 1, 1, -1, 0}, {3, 1, 0, 1, 0}, {3, 1, 128, 1, 0}, {3, 1, 1, 0, 0}, {3, 1, 1, 9, 0},
             {3, 1, 1, -9, 0}, {4, 1, 431, 0, 0}, {4, 1, 230, 0, 0}, {4, 1, 99, 0, 0}, {4, 1, 1232, 0, 0}, {4, 1, 101, 2, 0},
@@ -347,6 +360,12 @@ public final class PromiseTest {
         refused(STATE, w, () -> w.time(0, 0, 41));
         w.mend(0, 4);
         due(1440, w.time(0, 0, 1440));
+        w.mend(0, 3);
+        w.move(0, 3, 0, 0);
+        w.time(0, 0, 2);
+        w.mend(0, 3);
+        w.move(0, 3, 0, 1438);
+        refused(STATE, w, () -> w.time(0, 0, 3));
     }
 
     static void promise11() {
@@ -525,6 +544,14 @@ public final class PromiseTest {
         refused(STATE, w, () -> w.cut(0, LEAST));
         refused(STATE, w, () -> w.cut(0, MOST));
         refused(INDEX, w, () -> w.cut(2, 5));
+        // The wall's last day may be cut off, and an exception at the day itself is of the new one.
+        Daywall y = new Daywall();
+        y.series(0, 1, 0, 0, 0);
+        y.strike(0, LAST);
+        due(1, y.cut(0, LAST));
+        due("days 1 0 0 36524 36524 540 60 1 0", y.text(1));
+        due(2, y.on(1, LAST));
+        due(0, y.on(0, LAST));
         // What has rung goes with its day: it does not ring again, wherever it is.
         Daywall v = new Daywall();
         v.series(0, 1, 0, 0, 0);
@@ -541,6 +568,54 @@ public final class PromiseTest {
             due(k, v.cut(k - 1, 10 * k));
         }
         refused(STATE, v, () -> v.cut(9, 1000));
+    }
+
+    /** A wall on which a series of every day has rung on all its DAYS, 0 to 195. */
+    private static Daywall rungWall() {
+        Daywall w = new Daywall();
+        w.series(0, 1, 0, 0, 0);
+        w.remind(0, 0);
+        for (int n = 0; n < 14; n++) {
+            due(14, w.tick(20160));
+        }
+        w.until(0, 195);
+        return w;
+    }
+
+    /** How many of these DAYS ring, if they are moved to where the clock is yet to come: twelve at a time. */
+    private static int ringsOf(Daywall w, int series, int from, int to) {
+        int rings = 0;
+        for (int first = from; first <= to; first += 12) {
+            int last = Math.min(to, first + 11);
+            int now = w.count(6);
+            for (int day = first; day <= last; day++) {
+                w.move(series, day, (now + 60) / 1440, (now + 60) % 1440 > 1380 ? 1380 : (now + 60) % 1440);
+            }
+            rings += w.tick(61);
+            for (int day = first; day <= last; day++) {
+                w.mend(series, day);
+            }
+        }
+        return rings;
+    }
+
+    /** What has rung is cut and joined day by day: no day rings twice, and each that has not yet may. */
+    static void promise18rung() {
+        for (int cut : new int[] {1, 63, 64, 65, 100, 127, 128, 129, 190, 191, 192, 195}) {
+            Daywall w = rungWall();
+            due(1, w.cut(0, cut));
+            due(0, ringsOf(w, 0, 0, cut - 1));
+            due(0, ringsOf(w, 1, cut, 195));
+            due(0, w.join(0, 1));
+            due(0, ringsOf(w, 0, 0, 195));
+            Daywall v = rungWall();
+            due(1, v.cut(0, cut));
+            // The first one goes on again: what has rung from the cut on is the other one's.
+            v.until(0, 195);
+            due(0, ringsOf(v, 0, 0, cut - 1));
+            due(196 - cut, ringsOf(v, 0, cut, 195));
+            due(0, ringsOf(v, 1, cut, 195));
+        }
     }
 
     static void promise19() {
@@ -845,6 +920,18 @@ public final class PromiseTest {
         refused(INDEX, w, () -> w.spoiled(0, -1, 0));
         refused(ARGUMENT, w, () -> w.spoiled(0, 0, 12));
         refused(ARGUMENT, w, () -> w.spoiled(0, 28, -1));
+        // MINUTE and LENGTH at their bounds: days 3 0 0 2 36524 1400 40 1 0
+        w.time(0, 1400, 40);
+        due(-1, w.spoiled(0, 19, 1));
+        due(6, w.spoiled(0, 21, 4));
+        due(7, w.spoiled(0, 25, 1));
+        due(7, w.spoiled(0, 24, 0));
+        due(-1, w.spoiled(0, 24, 1));
+        due(7, w.spoiled(0, 24, 5));
+        w.time(0, 0, 1);
+        due(-1, w.spoiled(0, 21, 1));
+        due(7, w.spoiled(0, 21, 0));
+        due(-1, w.spoiled(0, 19, 0));
         Daywall v = new Daywall();
         v.series(4, 12, 1012, 0, 0);
         // year 12 1012 0 0 36524 540 60 1 0
@@ -899,6 +986,22 @@ public final class PromiseTest {
         v.series(0, 60, 0, 0, 0);
         v.series(0, 60, 0, 0, 59);
         due(59, v.same(2, 3));
+        v.series(4, 1, 1231, 0, LAST - 300);
+        v.series(4, 1, 101, 0, LAST - 300);
+        due(LAST, v.same(4, 5));
+        due(LAST, v.same(5, 4));
+        v.drop(5);
+        v.drop(4);
+        // On the second day, and on the last day of the period.
+        v.series(1, 1, 63, 0, 0);
+        v.series(0, 1, 0, 0, 0);
+        due(1, v.same(4, 5));
+        v.series(1, 1, 32, 0, 0);
+        v.series(1, 1, 48, 0, 0);
+        due(6, v.same(6, 7));
+        for (int k = 7; k >= 4; k--) {
+            v.drop(k);
+        }
         // Neither has a day before the wall ends.
         v.series(4, 1, 101, 0, LAST - 300);
         v.series(4, 1, 102, 0, LAST - 300);
@@ -963,6 +1066,14 @@ public final class PromiseTest {
         due("17819m2 17820s0 17820s1 17820s1 17820m0 17821s0", w.agenda(12, 12));
         due("540s0 17819m2 17820s0 17820s1 17820s1 17820m0 17821s0 18720m3", w.agenda(0, 13));
         due("", w.agenda(1, 11));
+        // The first and the last minute of a span.
+        w.move(0, 36, 7, 0);
+        w.move(0, 48, 8, 1380);
+        w.meet(0, -1, 6, 1439, 1, 0);
+        w.meet(0, -1, 9, 0, 1, 0);
+        due("10080s0 12900s0", w.agenda(7, 8));
+        due("10079m4", w.agenda(6, 6));
+        due("12960m5", w.agenda(9, 9));
         refused(INDEX, w, () -> w.agenda(-1, 0));
         refused(INDEX, w, () -> w.agenda(LAST, LAST + 1));
         refused(ARGUMENT, w, () -> w.agenda(0, 14));
@@ -1154,7 +1265,14 @@ public final class PromiseTest {
         refused(STATE, w, () -> w.agree(0, 1));
         refused(STATE, w, () -> w.agree(0, 2));
         refused(STATE, w, () -> w.agree(0, 5));
-        refused(INDEX, w, () -> w.agree(2, 1));
+        // One who handed on what he asked another time for is no guest.
+        w.meet(0, -1, 0, 0, 60, 6);
+        w.answer(2, 1, 0);
+        w.ask(2, 1, 5, 5);
+        w.hand(2, 1, 3);
+        refused(STATE, w, () -> w.agree(2, 1));
+        w.cancel(2);
+        refused(INDEX, w, () -> w.agree(3, 1));
         refused(INDEX, w, () -> w.agree(0, 6));
         w.ask(0, 1, 0, 0);
         w.cancel(0);
@@ -1298,6 +1416,15 @@ public final class PromiseTest {
         w.skips(0, true);
         due(0, w.busy(0, 2));
         due(60, w.busy(0, 3));
+        // Moved from one day to another, at the first and the last minute of it.
+        w.mend(0, 0);
+        w.mend(0, 1);
+        w.move(0, 8, 20, 0);
+        w.move(0, 9, 20, 1380);
+        w.move(0, 10, 20, 30);
+        due(60 + 90 + 60, w.busy(0, 20));
+        due(60, w.busy(0, 19));
+        due(0, w.busy(0, 8));
         refused(INDEX, w, () -> w.busy(6, 0));
         refused(INDEX, w, () -> w.busy(-1, 0));
         refused(INDEX, w, () -> w.busy(0, -1));
@@ -1369,6 +1496,24 @@ public final class PromiseTest {
         v.holiday(4, 107, 0);
         due(2 * 1440 + 600, v.propose(1, 6, 2, 60));
         due(2 * 1440 + 600, v.propose(1, 4, 2, 45));
+        // All five who may are busy all the time.
+        Daywall u = new Daywall();
+        u.series(0, 1, 0, 0, 0);
+        u.people(0, 62);
+        u.time(0, 0, 1440);
+        due(2 * 1440 + 540, u.propose(1, 62, 0, 60));
+        due(-1, u.propose(2, 1, 0, 60));
+        // Just before one who must is busy, just after, and at the ends of the day.
+        u.drop(0);
+        u.hours(0, 1440);
+        u.meet(0, -1, 2, 0, 1, 0);
+        u.meet(0, -1, 2, 30, 60, 0);
+        due(2 * 1440 + 15, u.propose(1, 0, 2, 15));
+        due(2 * 1440 + 15, u.propose(1, 0, 2, 1));
+        due(2 * 1440 + 90, u.propose(1, 0, 2, 16));
+        due(2 * 1440 + 90, u.propose(1, 0, 2, 1350));
+        due(3 * 1440, u.propose(1, 0, 2, 1351));
+        due(3 * 1440, u.propose(1, 0, 2, 1440));
         // Five days are looked at, not five workdays.
         due(9 * 1440 + 540, v.propose(1, 0, 5, 120));
         v.holiday(4, 110, 0);
@@ -1412,6 +1557,19 @@ public final class PromiseTest {
         u.remind(0, 539);
         due(1, u.tick(1));
         due("1s0", u.rung());
+        // After the clock before, not after the clock then: moved ones, too.
+        Daywall z = new Daywall();
+        z.series(0, 7, 0, 0, 700);
+        z.remind(0, 10);
+        z.move(0, 700, 0, 110);
+        z.move(0, 707, 0, 111);
+        z.move(0, 714, 0, 121);
+        due(1, z.tick(100));
+        due(1, z.tick(10));
+        due(1, z.tick(1));
+        due("100s0 101s0 111s0", z.rung());
+        z.move(0, 721, 0, 121);
+        due(0, z.tick(20160));
         // A holiday that is skipped does not ring, a moved one does at its time.
         Daywall x = new Daywall();
         x.holiday(4, 102, 0);
@@ -1797,6 +1955,8 @@ public final class PromiseTest {
         }
         promise = 9;
         promise9rules();
+        promise = 18;
+        promise18rung();
         System.out.println("PromiseTest: " + checks + " checks, " + wrong + " wrong");
         if (wrong != 0) {
             System.exit(1);
