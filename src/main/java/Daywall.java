@@ -414,7 +414,7 @@ public final class Daywall {
         for (int k = 0; k < allMeetings.size(); k++) {
             Meeting m = allMeetings.get(k);
             if (m.isStanding && m.time >= from * DAY_MINUTES && m.time < after) {
-                order.insert(m.time, MOST_SERIES + k, 0);
+                order.enter(m.time, MOST_SERIES + k, 0);
             }
         }
         writeOrder();
@@ -950,14 +950,14 @@ public final class Daywall {
     private void gatherOccurrences(int number, Series s, int from, int to) {
         for (int day = from; day <= to; day++) {
             if (s.occursOn(day, holidays)) {
-                order.insert(day * DAY_MINUTES + s.minute, number, day);
+                order.enter(day * DAY_MINUTES + s.minute, number, day);
             }
         }
         int after = (to + 1) * DAY_MINUTES;
         for (int k = 0; k < s.exceptionCount; k++) {
             int time = s.exceptionTimes[k];
             if (time != Series.STRUCK && time >= from * DAY_MINUTES && time < after) {
-                order.insert(time, number, s.exceptionDays[k]);
+                order.enter(time, number, s.exceptionDays[k]);
             }
         }
     }
@@ -969,13 +969,13 @@ public final class Daywall {
         for (int day = after / DAY_MINUTES; day <= lastDay; day++) {
             int time = day * DAY_MINUTES + s.minute;
             if (time > after && time <= till && !s.rungDays.has(day) && s.occursOn(day, holidays)) {
-                order.insert(time - s.remind, number, day);
+                order.enter(time - s.remind, number, day);
             }
         }
         for (int k = 0; k < s.exceptionCount; k++) {
             int time = s.exceptionTimes[k];
             if (time != Series.STRUCK && time > after && time <= till && !s.rungDays.has(s.exceptionDays[k])) {
-                order.insert(time - s.remind, number, s.exceptionDays[k]);
+                order.enter(time - s.remind, number, s.exceptionDays[k]);
             }
         }
     }
@@ -1442,8 +1442,7 @@ public final class Daywall {
                     day = placeIn(Days.firstOf(unit), Days.lengthOf(unit));
                     break;
                 case YEAR:
-                    int month = 12 * unit + a / 100 - 1;
-                    day = dateIn(Days.firstOf(month), Days.lengthOf(month));
+                    day = dateIn(Days.firstOf(12 * unit + a / 100 - 1), Days.lengthOf(12 * unit + a / 100 - 1));
                     break;
                 default:
                     day = Days.easterOf(unit) + a;
@@ -1863,7 +1862,7 @@ public final class Daywall {
             size = 0;
         }
 
-        void insert(int time, int source, int ruleDay) {
+        void enter(int time, int source, int ruleDay) {
             if (size >= keys.length) {
                 return;
             }

@@ -54,6 +54,9 @@ public final class PromiseTest {
             if (e.getClass() != kind) {
                 fault("threw " + e + ", due is " + kind.getSimpleName());
             }
+            if (e.getStackTrace().length == 0 || !e.getStackTrace()[0].getClassName().startsWith("Daywall")) {
+                fault("it is not Daywall that threw " + e);
+            }
         }
         if (!before.equals(all(wall))) {
             fault("a refused call changed " + before + " to " + all(wall));
@@ -915,11 +918,17 @@ public final class PromiseTest {
         due(7, w.spoiled(0, 23, 10));
         // "540" in two: MINUTE 5, LENGTH 0.
         due(7, w.spoiled(0, 20, 11));
-        refused(INDEX, w, () -> w.spoiled(1, 0, 12));
+        refused(INDEX, w, () -> w.spoiled(2, 0, 12));
         refused(INDEX, w, () -> w.spoiled(0, 29, 12));
         refused(INDEX, w, () -> w.spoiled(0, -1, 0));
         refused(ARGUMENT, w, () -> w.spoiled(0, 0, 12));
         refused(ARGUMENT, w, () -> w.spoiled(0, 28, -1));
+        // A "-" is right ahead of a number that may be below 0, or is 0: month 1 12 0 10 36524 540 60 1 0
+        w.series(2, 1, 12, 0, 10);
+        due(-1, w.spoiled(1, 8, 10));
+        due(2, w.spoiled(1, 9, 10));
+        due(-1, w.spoiled(1, 13, 10));
+        due(4, w.spoiled(1, 14, 10));
         // MINUTE and LENGTH at their bounds: days 3 0 0 2 36524 1400 40 1 0
         w.time(0, 1400, 40);
         due(-1, w.spoiled(0, 19, 1));
