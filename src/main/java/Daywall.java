@@ -64,7 +64,7 @@ public final class Daywall {
 
     // ---- days
 
-    public int day(int year, int month, int day) {
+    public int day(int year, int month, int day) throws IllegalArgumentException {
         requireYear(year);
         if (month < 1 || month > 12) {
             return NO_SUCH_DATE;
@@ -76,7 +76,7 @@ public final class Daywall {
         return Days.firstOf(wallMonth) + day - 1;
     }
 
-    public int ofDay(int day, int what) {
+    public int ofDay(int day, int what) throws IndexOutOfBoundsException, IllegalArgumentException {
         requireDay(day);
         int month = Days.monthOf(day);
         int years = Days.yearsTo(day);
@@ -102,7 +102,7 @@ public final class Daywall {
         }
     }
 
-    public String dayText(int day) {
+    public String dayText(int day) throws IndexOutOfBoundsException {
         requireDay(day);
         int month = Days.monthOf(day);
         line.setLength(0);
@@ -113,7 +113,7 @@ public final class Daywall {
         return line.toString();
     }
 
-    public int months(int day, int by) {
+    public int months(int day, int by) throws IndexOutOfBoundsException, IllegalArgumentException {
         requireDay(day);
         if (by < -MONTH_COUNT || by > MONTH_COUNT) {
             throw new IllegalArgumentException("by is not -1200 to 1200");
@@ -121,7 +121,7 @@ public final class Daywall {
         return Days.onBy(day, by);
     }
 
-    public int between(int from, int to, int what) {
+    public int between(int from, int to, int what) throws IndexOutOfBoundsException, IllegalArgumentException {
         requireDay(from);
         requireDay(to);
         if (to < from) {
@@ -143,12 +143,12 @@ public final class Daywall {
         }
     }
 
-    public int easter(int year) {
+    public int easter(int year) throws IllegalArgumentException {
         requireYear(year);
         return Days.easterOf(year - FIRST_YEAR);
     }
 
-    public int holiday(int form, int a, int b) {
+    public int holiday(int form, int a, int b) throws IllegalArgumentException, IllegalStateException {
         if (form != Rule.YEAR && form != Rule.EASTER || !Rule.isA(form, a) || !Rule.isB(form, b)) {
             throw new IllegalArgumentException("form, a or b is not in its bounds");
         }
@@ -168,7 +168,8 @@ public final class Daywall {
 
     // ---- series
 
-    public int series(int form, int every, int a, int b, int start) {
+    public int series(int form, int every, int a, int b, int start)
+            throws IllegalArgumentException, IllegalStateException {
         if (!Rule.isForm(form) || every < 1 || every > HIGHEST_EVERY) {
             throw new IllegalArgumentException("form or every is not in its bounds");
         }
@@ -180,7 +181,8 @@ public final class Daywall {
         return allSeries.size() - 1;
     }
 
-    public int time(int series, int minute, int length) {
+    public int time(int series, int minute, int length)
+            throws IndexOutOfBoundsException, IllegalArgumentException, IllegalStateException {
         Series s = seriesAt(series);
         requireSpan(minute, length);
         if (s.wouldOutlastDay(length)) {
@@ -191,7 +193,7 @@ public final class Daywall {
         return minute + length;
     }
 
-    public int people(int series, int set) {
+    public int people(int series, int set) throws IndexOutOfBoundsException, IllegalArgumentException {
         Series s = seriesAt(series);
         requireSomePeople(set);
         int before = s.people;
@@ -199,7 +201,7 @@ public final class Daywall {
         return before;
     }
 
-    public int until(int series, int day) {
+    public int until(int series, int day) throws IndexOutOfBoundsException, IllegalArgumentException {
         Series s = seriesAt(series);
         if (day < s.rule.start || day > LAST_DAY) {
             throw new IllegalArgumentException("day is not START to 36524");
@@ -207,7 +209,8 @@ public final class Daywall {
         return s.endAt(day);
     }
 
-    public int often(int series, int k) {
+    public int often(int series, int k)
+            throws IndexOutOfBoundsException, IllegalArgumentException, IllegalStateException {
         Series s = seriesAt(series);
         if (k < 1 || k > HIGHEST_K) {
             throw new IllegalArgumentException("k is not 1 to 400");
@@ -220,21 +223,22 @@ public final class Daywall {
         return day;
     }
 
-    public boolean skips(int series, boolean isSkipping) {
+    public boolean skips(int series, boolean isSkipping) throws IndexOutOfBoundsException {
         Series s = seriesAt(series);
         boolean before = s.isSkipping;
         s.isSkipping = isSkipping;
         return before;
     }
 
-    public int strike(int series, int day) {
+    public int strike(int series, int day) throws IndexOutOfBoundsException, IllegalStateException {
         Series s = seriesAt(series);
         requireRoomForException(s, day);
         s.addException(day, Series.STRUCK);
         return s.exceptionCount;
     }
 
-    public int move(int series, int day, int toDay, int toMinute) {
+    public int move(int series, int day, int toDay, int toMinute)
+            throws IndexOutOfBoundsException, IllegalArgumentException, IllegalStateException {
         Series s = seriesAt(series);
         if (!isOnWall(toDay)) {
             throw new IllegalArgumentException("the wall has no day toDay");
@@ -245,7 +249,7 @@ public final class Daywall {
         return s.exceptionCount;
     }
 
-    public int mend(int series, int day) {
+    public int mend(int series, int day) throws IndexOutOfBoundsException, IllegalStateException {
         Series s = seriesAt(series);
         int place = s.exceptionAt(day);
         if (place == NONE) {
@@ -255,7 +259,7 @@ public final class Daywall {
         return s.exceptionCount;
     }
 
-    public int cut(int series, int day) {
+    public int cut(int series, int day) throws IndexOutOfBoundsException, IllegalStateException {
         Series s = seriesAt(series);
         requireRoomForSeries();
         // Days off the wall are sorted out first: day - 1 could wrap around.
@@ -275,7 +279,7 @@ public final class Daywall {
         return allSeries.size() - 1;
     }
 
-    public int join(int a, int b) {
+    public int join(int a, int b) throws IndexOutOfBoundsException, IllegalStateException {
         Series first = seriesAt(a);
         Series second = seriesAt(b);
         if (!first.rule.isLike(second.rule) || !first.hasSettingsOf(second)) {
@@ -293,13 +297,13 @@ public final class Daywall {
         return b < a ? a - 1 : a;
     }
 
-    public int drop(int series) {
+    public int drop(int series) throws IndexOutOfBoundsException {
         requireSeries(series);
         allSeries.remove(series);
         return allSeries.size();
     }
 
-    public int copy(int series) {
+    public int copy(int series) throws IndexOutOfBoundsException, IllegalStateException {
         Series s = seriesAt(series);
         requireRoomForSeries();
         writeSeries(s);
@@ -308,7 +312,7 @@ public final class Daywall {
         return allSeries.size() - 1;
     }
 
-    public int remind(int series, int before) {
+    public int remind(int series, int before) throws IndexOutOfBoundsException, IllegalArgumentException {
         Series s = seriesAt(series);
         if (before < NONE || before > DAY_MINUTES) {
             throw new IllegalArgumentException("before is not 0 to 1440, or NONE");
@@ -320,13 +324,13 @@ public final class Daywall {
 
     // ---- what a series is asked
 
-    public int on(int series, int day) {
+    public int on(int series, int day) throws IndexOutOfBoundsException {
         Series s = seriesAt(series);
         requireDay(day);
         return s.kindOf(day, holidays) + 8 * s.movedTo(day);
     }
 
-    public int kth(int series, int k) {
+    public int kth(int series, int k) throws IndexOutOfBoundsException, IllegalArgumentException {
         Series s = seriesAt(series);
         if (k < 0 || k > HIGHEST_K) {
             throw new IllegalArgumentException("k is not 0 to 400");
@@ -335,24 +339,24 @@ public final class Daywall {
         return day <= s.last ? day : NONE;
     }
 
-    public int next(int series, int day, boolean isBack) {
+    public int next(int series, int day, boolean isBack) throws IndexOutOfBoundsException {
         Series s = seriesAt(series);
         requireDay(day);
         return isBack ? s.latestTill(day) : s.earliestFrom(day);
     }
 
-    public int many(int series, int from, int to) {
+    public int many(int series, int from, int to) throws IndexOutOfBoundsException, IllegalArgumentException {
         Series s = seriesAt(series);
         requireSpanOfDays(from, to, 4000);
         return s.dayCount(from, to);
     }
 
-    public String text(int series) {
+    public String text(int series) throws IndexOutOfBoundsException {
         writeSeries(seriesAt(series));
         return line.toString();
     }
 
-    public int spoiled(int series, int at, int sign) {
+    public int spoiled(int series, int at, int sign) throws IndexOutOfBoundsException, IllegalArgumentException {
         writeSeries(seriesAt(series));
         if (at < 0 || at >= line.length()) {
             throw new IndexOutOfBoundsException("there is no such place");
@@ -364,7 +368,7 @@ public final class Daywall {
         return reader.faultOf(line);
     }
 
-    public int same(int a, int b) {
+    public int same(int a, int b) throws IndexOutOfBoundsException {
         Rule one = seriesAt(a).rule;
         Rule other = seriesAt(b).rule;
         int low = Math.max(one.start, other.start);
@@ -385,13 +389,13 @@ public final class Daywall {
         return NONE;
     }
 
-    public int period(int a, int b) {
+    public int period(int a, int b) throws IndexOutOfBoundsException {
         Series first = seriesAt(a);
         Series second = seriesAt(b);
         return Rule.periodOfBoth(first.rule, second.rule);
     }
 
-    public int differs(int a, int b, int from, int to) {
+    public int differs(int a, int b, int from, int to) throws IndexOutOfBoundsException, IllegalArgumentException {
         Series first = seriesAt(a);
         Series second = seriesAt(b);
         requireSpanOfDays(from, to, 400);
@@ -404,7 +408,7 @@ public final class Daywall {
         return found;
     }
 
-    public String agenda(int from, int to) {
+    public String agenda(int from, int to) throws IndexOutOfBoundsException, IllegalArgumentException {
         requireSpanOfDays(from, to, 13);
         order.empty();
         for (int k = 0; k < allSeries.size(); k++) {
@@ -423,7 +427,8 @@ public final class Daywall {
 
     // ---- meetings
 
-    public int meet(int owner, int room, int day, int minute, int length, int guests) {
+    public int meet(int owner, int room, int day, int minute, int length, int guests)
+            throws IndexOutOfBoundsException, IllegalArgumentException, IllegalStateException {
         requirePerson(owner);
         if (room < NONE || room > 2) {
             throw new IndexOutOfBoundsException("there is no such room");
@@ -445,7 +450,8 @@ public final class Daywall {
         return allMeetings.size() - 1;
     }
 
-    public int put(int meeting, int day, int minute) {
+    public int put(int meeting, int day, int minute)
+            throws IndexOutOfBoundsException, IllegalArgumentException, IllegalStateException {
         Meeting m = meetingAt(meeting);
         requireDay(day);
         requireMinuteFor(m.length, minute);
@@ -453,14 +459,15 @@ public final class Daywall {
         return putTo(m, day * DAY_MINUTES + minute);
     }
 
-    public int cancel(int meeting) {
+    public int cancel(int meeting) throws IndexOutOfBoundsException, IllegalStateException {
         Meeting m = meetingAt(meeting);
         requireStanding(m);
         m.isStanding = false;
         return standingCount();
     }
 
-    public int answer(int meeting, int person, int what) {
+    public int answer(int meeting, int person, int what)
+            throws IndexOutOfBoundsException, IllegalArgumentException, IllegalStateException {
         Meeting m = meetingAt(meeting);
         requirePerson(person);
         if (what < 0 || what > PERHAPS) {
@@ -475,7 +482,8 @@ public final class Daywall {
         return m.version;
     }
 
-    public int ask(int meeting, int person, int day, int minute) {
+    public int ask(int meeting, int person, int day, int minute)
+            throws IndexOutOfBoundsException, IllegalArgumentException, IllegalStateException {
         Meeting m = meetingAt(meeting);
         requirePerson(person);
         requireDay(day);
@@ -490,7 +498,7 @@ public final class Daywall {
         return m.askedTimes[person];
     }
 
-    public int agree(int meeting, int person) {
+    public int agree(int meeting, int person) throws IndexOutOfBoundsException, IllegalStateException {
         Meeting m = meetingAt(meeting);
         requirePerson(person);
         requireStanding(m);
@@ -506,7 +514,7 @@ public final class Daywall {
         return result;
     }
 
-    public int hand(int meeting, int person, int other) {
+    public int hand(int meeting, int person, int other) throws IndexOutOfBoundsException, IllegalStateException {
         Meeting m = meetingAt(meeting);
         requirePerson(person);
         requirePerson(other);
@@ -519,7 +527,7 @@ public final class Daywall {
         return m.guests;
     }
 
-    public int ofMeeting(int meeting, int what) {
+    public int ofMeeting(int meeting, int what) throws IndexOutOfBoundsException, IllegalArgumentException {
         Meeting m = meetingAt(meeting);
         switch (what) {
             case 0:
@@ -543,7 +551,8 @@ public final class Daywall {
         }
     }
 
-    public int ofGuest(int meeting, int person, int what) {
+    public int ofGuest(int meeting, int person, int what)
+            throws IndexOutOfBoundsException, IllegalArgumentException, IllegalStateException {
         Meeting m = meetingAt(meeting);
         requirePerson(person);
         if (what < 0 || what > 3) {
@@ -564,7 +573,7 @@ public final class Daywall {
 
     // ---- busy and free
 
-    public int hours(int from, int to) {
+    public int hours(int from, int to) throws IllegalArgumentException {
         if (from < 0 || from >= DAY_MINUTES || to <= from || to > DAY_MINUTES) {
             throw new IllegalArgumentException("from is not 0 to 1439, or to not from + 1 to 1440");
         }
@@ -573,7 +582,7 @@ public final class Daywall {
         return to - from;
     }
 
-    public int travel(int minutes) {
+    public int travel(int minutes) throws IllegalArgumentException {
         if (minutes < 0 || minutes > 60) {
             throw new IllegalArgumentException("minutes is not 0 to 60");
         }
@@ -582,21 +591,22 @@ public final class Daywall {
         return before;
     }
 
-    public int busy(int person, int day) {
+    public int busy(int person, int day) throws IndexOutOfBoundsException {
         requirePerson(person);
         requireDay(day);
         paintDay(day);
         return busyMinutes(person, 0, DAY_MINUTES);
     }
 
-    public String free(int people, int day) {
+    public String free(int people, int day) throws IndexOutOfBoundsException, IllegalArgumentException {
         requireDay(day);
         requireSomePeople(people);
         writeFree(people, day);
         return line.toString();
     }
 
-    public int propose(int must, int may, int day, int length) {
+    public int propose(int must, int may, int day, int length)
+            throws IndexOutOfBoundsException, IllegalArgumentException {
         requireDay(day);
         requireSomePeople(must);
         if (may < 0 || may > ALL_PEOPLE || length < 1 || length > DAY_MINUTES) {
@@ -624,7 +634,7 @@ public final class Daywall {
 
     // ---- clock and zones
 
-    public int tick(int minutes) {
+    public int tick(int minutes) throws IllegalArgumentException, IllegalStateException {
         if (minutes < 1 || minutes > 20160) {
             throw new IllegalArgumentException("minutes is not 1 to 20160");
         }
@@ -652,7 +662,8 @@ public final class Daywall {
         return line.toString();
     }
 
-    public int zone(int person, int day, int shift) {
+    public int zone(int person, int day, int shift)
+            throws IndexOutOfBoundsException, IllegalArgumentException, IllegalStateException {
         requirePerson(person);
         requireDay(day);
         if (shift < -720 || shift > 840) {
@@ -665,7 +676,7 @@ public final class Daywall {
         return zones[person].size;
     }
 
-    public int local(int person, int day, int minute) {
+    public int local(int person, int day, int minute) throws IndexOutOfBoundsException, IllegalArgumentException {
         requirePerson(person);
         requireDay(day);
         requireMinuteFor(1, minute);
@@ -674,7 +685,7 @@ public final class Daywall {
 
     // ---- tasks and notes
 
-    public int task(int length) {
+    public int task(int length) throws IllegalArgumentException, IllegalStateException {
         if (length < 1 || length > 20) {
             throw new IllegalArgumentException("length is not 1 to 20");
         }
@@ -686,7 +697,7 @@ public final class Daywall {
         return tasks.size - 1;
     }
 
-    public int need(int task, int other) {
+    public int need(int task, int other) throws IndexOutOfBoundsException, IllegalStateException {
         requireTask(task);
         requireTask(other);
         boolean isNeeded = (tasks.needs[task] >> other & 1) != 0;
@@ -697,7 +708,7 @@ public final class Daywall {
         return Integer.bitCount(tasks.needs[task]);
     }
 
-    public int done(int task, int day) {
+    public int done(int task, int day) throws IndexOutOfBoundsException {
         requireTask(task);
         requireDay(day);
         tasks.forgetDone();
@@ -712,7 +723,7 @@ public final class Daywall {
         return tasks.doneDays[task];
     }
 
-    public int note(int copy, int number, int value) {
+    public int note(int copy, int number, int value) throws IndexOutOfBoundsException, IllegalArgumentException {
         requireNote(copy, number);
         if (value < 0 || value > 99) {
             throw new IllegalArgumentException("value is not 0 to 99");
@@ -721,7 +732,7 @@ public final class Daywall {
         return copies.sizeOf(copy);
     }
 
-    public int erase(int copy, int number) {
+    public int erase(int copy, int number) throws IndexOutOfBoundsException, IllegalStateException {
         requireNote(copy, number);
         if (copies.rowOf(copy)[number] == NONE) {
             throw new IllegalStateException("that copy has it not");
@@ -735,7 +746,7 @@ public final class Daywall {
         return copies.sizeOf(0);
     }
 
-    public String notes(int copy) {
+    public String notes(int copy) throws IndexOutOfBoundsException {
         requireNote(copy, 0);
         copies.writeCopy(copy, line);
         return line.toString();
@@ -748,7 +759,7 @@ public final class Daywall {
         return refused;
     }
 
-    public int count(int what) {
+    public int count(int what) throws IllegalArgumentException {
         switch (what) {
             case 0:
                 return allSeries.size();
