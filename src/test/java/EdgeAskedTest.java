@@ -231,6 +231,31 @@ public final class EdgeAskedTest extends Edges {
         due(4, fault(six, "days 1 0 0 0", "9"));
     }
 
+    @Says(at = SERIES, value = "that is in the bounds told above")
+    static void oneBelowNoughtIsInNoBounds() {
+        // A word of 11 is -1 then: of all of them only A (of an EASTER) and B (of a place) may be.
+        Steps steps = w -> {
+            w.series(5, 11, 11, 0, 11);
+            w.until(0, 11);
+            w.time(0, 11, 11);
+            w.people(0, 11);
+        };
+        String[] words = made(steps).text(0).split(" ");
+        due("easter 11 11 0 11 11 11 11 11 0", String.join(" ", words));
+        StringBuilder ahead = new StringBuilder();
+        for (int k = 0; k < 10; k++) {
+            due(k == 2 ? -1 : k, fault(steps, ahead.toString(), "-"));
+            ahead.append(words[k]).append(' ');
+        }
+        Steps place = w -> w.series(3, 11, 11, 1, 0);
+        due(2, fault(place, "place 11 ", "-"));
+        due(3, fault(place, "place 11 11 ", "-"));
+        Steps week = w -> w.series(1, 11, 11, 0, 0);
+        due(2, fault(week, "weeks 11 ", "-"));
+        Steps year = w -> w.series(4, 11, 1111, 0, 0);
+        due(2, fault(year, "year 11 ", "-"));
+    }
+
     @Says(at = SERIES, value = "(noughts ahead are let;")
     static void noughtsAhead() {
         Steps steps = w -> {
@@ -461,6 +486,12 @@ public final class EdgeAskedTest extends Edges {
         w.series(0, 1, 0, 0, LAST);
         due(LAST, w.kth(3, 0));
         due(-1, w.kth(3, 1));
+        // The wall's last WEEK goes on without DAYS: it has a Thursday, but no Friday.
+        w.series(1, 1, 8 + 16, 0, LAST - 1);
+        due(LAST, w.kth(4, 0));
+        due(-1, w.kth(4, 1));
+        due(LAST, w.next(4, LAST - 1, false));
+        w.drop(4);
         // A first RULE DAY after START, and after LAST.
         w.series(1, 1, 1, 0, 3);
         due(9, w.kth(4, 0));
@@ -504,6 +535,13 @@ public final class EdgeAskedTest extends Edges {
         w.series(2, 12, 30, 0, 31);
         due(-1, w.next(2, 0, false));
         due(-1, w.next(2, LAST, true));
+        // Backwards over years that have none.
+        w.series(4, 1, 229, 0, 0);
+        for (int year = 2000; year <= 2007; year++) {
+            due(date(year < 2004 ? 2000 : 2004, 2, 29), w.next(3, date(year, 12, 31), true));
+            due(date(year <= 2004 ? 2004 : 2008, 2, 29), w.next(3, date(year, 12, 31) - (year == 2004 ? 366 : 0), false));
+        }
+        w.drop(3);
         w.series(4, 60, 1231, 0, 0);
         due(date(2060, 12, 31), w.next(3, 366, false));
         due(-1, w.next(3, date(2061, 1, 1), false));
@@ -513,7 +551,7 @@ public final class EdgeAskedTest extends Edges {
     /** Each form, from both sides, against each DAY asked by itself. */
     @Says(at = "Promise 25", value = "Returns its first RULE DAY from that DAY on (backwards: its last one till that DAY, with it);")
     static void nextDaysOfEachForm() {
-        int[][] rules = {{0, 4, 0, 0}, {1, 2, 73, 0}, {1, 1, 64, 0}, {1, 3, 1, 0}, {2, 1, 31, 0}, {2, 2, -31, 1}, {2, 1, 29, 1}, {3, 1, 21, 5},
+        int[][] rules = {{4, 1, 229, 0}, {0, 4, 0, 0}, {1, 2, 73, 0}, {1, 1, 64, 0}, {1, 3, 1, 0}, {2, 1, 31, 0}, {2, 2, -31, 1}, {2, 1, 29, 1}, {3, 1, 21, 5},
             {3, 2, 96, -8}, {3, 1, 127, 8}, {4, 1, 229, 1}, {4, 1, 1231, 0}, {5, 1, -80, 0}, {5, 1, 240, 0}};
         for (int[] r : rules) {
             for (int start : new int[] {0, 3, 59, LAST - 190}) {
@@ -681,7 +719,11 @@ public final class EdgeAskedTest extends Edges {
             {{3, 1, 127, 1, 0}, {2, 1, 1, 0, 0}}, {{3, 1, 127, -1, 31}, {2, 1, 31, 1, 0}}, {{2, 1, -31, 1, 0}, {2, 1, 1, 0, 31}},
             {{4, 1, 229, 0, 0}, {4, 4, 229, 1, 0}}, {{2, 48, 29, 0, 31}, {4, 4, 229, 0, 0}}, {{2, 12, 30, 0, 31}, {3, 1, 1, 8, 0}},
             {{5, 1, 0, 0, date(2099, 1, 1)}, {4, 1, 412, 0, date(2099, 1, 1)}}, {{4, 1, 101, 0, LAST}, {4, 1, 102, 0, LAST - 300}},
-            {{1, 1, 127, 0, 5}, {0, 1, 0, 0, 9}}};
+            {{1, 1, 127, 0, 5}, {0, 1, 0, 0, 9}},
+            // Neither has a DAY from the later START on; before it the first one has 1 April, which is left aside.
+            {{4, 1, 401, 0, LAST - 300}, {4, 1, 101, 0, LAST - 200}}, {{0, 60, 0, 0, LAST - 55}, {4, 1, 101, 0, LAST - 50}},
+            // A WEEK that goes on after the wall's last DAY.
+            {{1, 1, 127, 0, LAST}, {0, 1, 0, 0, LAST}}, {{1, 1, 16, 0, LAST}, {4, 1, 101, 0, LAST}}, {{1, 1, 8 + 16, 0, LAST}, {1, 1, 8, 0, 3}}};
         for (int[][] two : alike) {
             dueSame(-1, two[0], two[1]);
         }
@@ -815,6 +857,17 @@ public final class EdgeAskedTest extends Edges {
         due("10080s0 10080m0", w.agenda(7, 7));
         due("", w.agenda(1, 5));
         due("20160s0 29400m2 30239s1", w.agenda(14, 20));
+        // MOVED ones, the minute before a span, its first and its last one, and the minute after it.
+        Daywall v = new Daywall();
+        v.series(0, 60, 0, 0, 30);
+        v.time(0, 600, 1);
+        v.move(0, 30, 4, 1439);
+        v.move(0, 90, 5, 0);
+        v.move(0, 150, 6, 1439);
+        v.move(0, 210, 7, 0);
+        due("7200s0 10079s0", v.agenda(5, 6));
+        due("7199s0", v.agenda(4, 4));
+        due("10080s0", v.agenda(7, 20));
         // What lasts into a span from before has not its TIME in it.
         w.meet(0, -1, 2, 0, 1440, 0);
         due("", w.agenda(3, 5));

@@ -115,6 +115,12 @@ public final class EdgeBusyTest extends Edges {
         v.series(0, 1, 0, 0, 0);
         v.people(0, 2);
         dueBusy(v, 5, 60, 60, 0, 0, 0, 0);
+        // Who says no has no way, either.
+        Daywall u = new Daywall();
+        u.travel(60);
+        u.meet(0, 0, 5, 600, 60, 6);
+        u.answer(0, 1, 2);
+        dueBusy(u, 5, 180, 0, 180, 0, 0, 0);
         // Each ROOM has one; ways that lie over one another count once; and one to a CANCELLED one is none.
         for (int room = 0; room <= 2; room++) {
             v.meet(2, room, 9, 600, 60, 0);
@@ -166,6 +172,29 @@ public final class EdgeBusyTest extends Edges {
         w.meet(0, -1, 3, 540, 59, 0);
         w.meet(0, -1, 3, 600, 420, 0);
         due("599-600", w.free(1, 3));
+    }
+
+    @Says(at = BUSY, value = "FREE spans of some for a DAY: the longest spans of HOURS in which none of them is BUSY.")
+    static void dayWithoutAMinuteLeft() {
+        Daywall w = new Daywall();
+        w.hours(0, 1440);
+        w.meet(0, -1, 3, 0, 1440, 0);
+        w.meet(1, -1, 3, 0, 720, 4);
+        w.meet(1, -1, 3, 720, 720, 0);
+        w.meet(2, -1, 3, 720, 719, 0);
+        for (int people : new int[] {1, 2, 1 + 2, 1 + 4, 63}) {
+            due("", w.free(people, 3));
+        }
+        due("1439-1440", w.free(4, 3));
+        due("0-1440", w.free(8 + 16 + 32, 3));
+        dueBusy(w, 3, 1440, 1440, 1439, 0, 0, 0);
+        due(time(4, 0), w.propose(1, 0, 3, 1));
+        due(time(4, 0), w.propose(2, 0, 3, 15));
+        for (int hour = 0; hour < 24; hour++) {
+            w.hours(60 * hour, 60 * hour + 1);
+            due("", w.free(1, 3));
+            due("", w.free(2, 3));
+        }
     }
 
     // ---- 42. hours, 43. travel
@@ -351,6 +380,15 @@ public final class EdgeBusyTest extends Edges {
         due(time(2, 585), w.propose(2, 0, 2, 30));
         w.hours(540, 615);
         due(time(3, 540), w.propose(2, 0, 2, 31));
+        // In the first and in the last minute of a DAY.
+        w.hours(0, 1440);
+        w.meet(3, -1, 2, 0, 1, 0);
+        w.meet(4, -1, 2, 1439, 1, 0);
+        due(time(2, 15), w.propose(8, 0, 2, 1425));
+        due(time(3, 0), w.propose(8, 0, 2, 1426));
+        due(time(2, 0), w.propose(16, 0, 2, 1439));
+        due(time(3, 0), w.propose(16, 0, 2, 1440));
+        due(time(2, 15), w.propose(4, 8, 2, 15));
     }
 
     @Says(at = "Promise 46", value = "that in which the fewest who may (and need not) are BUSY (in one minute of these or more);")

@@ -142,6 +142,17 @@ public final class EdgeClockTest extends Edges {
         u.remind(0, 0);
         u.move(0, 0, 0, 700);
         due(1, u.tick(100));
+        // Of several EXCEPTIONS it is the one that rings that has rung, not another: DAY 5 has, 3 and 4 have not.
+        Daywall s = made(rung);
+        s.move(0, 3, 40, 0);
+        s.strike(0, 4);
+        s.move(0, 5, 0, 700);
+        due(1, s.tick(100));
+        s.mend(0, 5);
+        s.mend(0, 4);
+        s.mend(0, 3);
+        due(5, s.tick(6 * 1440));
+        due("540s0 700s0 1980s0 3420s0 4860s0 6300s0 9180s0", s.rung());
         // Of the same DAY each SERIES rings by itself.
         Daywall t = made(rung);
         t.copy(0);
@@ -641,6 +652,19 @@ public final class EdgeClockTest extends Edges {
                     refused(STATE, chain, w -> w.need(one, two));
                 }
             }
+        }
+        // Through any one of them, the first and the last too.
+        for (int through = 0; through < 8; through++) {
+            int middle = through;
+            int from = (through + 3) % 8;
+            int to = (through + 5) % 8;
+            Steps three = w -> {
+                tasks(w, 8);
+                w.need(from, middle);
+                w.need(middle, to);
+            };
+            refused(STATE, three, w -> w.need(to, from));
+            let(three, w -> w.need(from, to));
         }
         // Through others in two ways, and told from the last to the first.
         Steps two = w -> {

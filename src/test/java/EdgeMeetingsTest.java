@@ -550,10 +550,13 @@ public final class EdgeMeetingsTest extends Edges {
         };
         let(agreed, w -> w.ask(0, 1, 5, 0));
         refused(STATE, agreed, w -> w.ask(0, 2, 5, 0));
-        refused(STATE, w -> {
-            seen(w);
-            w.hand(0, 1, 3);
-        }, w -> w.ask(0, 3, 5, 0));
+        // Who has SEEN it, and handed it on, is no GUEST any more; who got it has not SEEN it.
+        for (int person : new int[] {1, 3}) {
+            refused(STATE, w -> {
+                seen(w);
+                w.hand(0, 1, 3);
+            }, w -> w.ask(0, person, 5, 0));
+        }
     }
 
     @Says(at = "Promise 38", value = {"The MEETING is put to the TIME that a GUEST ASKS FOR; it may be refused its ROOM.",
@@ -685,9 +688,11 @@ public final class EdgeMeetingsTest extends Edges {
         due(0, w.ofMeeting(0, 7));
         w.answer(0, 5, 1);
         due(32, w.ofMeeting(0, 7));
+        w.answer(0, 0, 1);
+        due(1 + 32, w.ofMeeting(0, 7));
         // Who handed it on is none of them, and CANCELLED it is all told still.
         w.answer(0, 3, 1);
-        due(8 + 32, w.ofMeeting(0, 7));
+        due(1 + 8 + 32, w.ofMeeting(0, 7));
         Daywall v = made(EdgeMeetingsTest::seen);
         v.answer(0, 1, 1);
         v.answer(0, 2, 1);

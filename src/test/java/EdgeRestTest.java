@@ -496,6 +496,14 @@ public final class EdgeRestTest extends Edges {
             w.series(4, 1, 101, 0, LAST);
             w.until(0, 3);
         });
+        // Of free() all persons count, the first and the last one too, and of the GUESTS each.
+        for (int person : new int[] {0, 5}) {
+            walls.add(w -> {
+                w.meet(person, -1, 0, 600, 60, 0);
+                w.meet(3, 0, 0, 0, 30, 1 << person);
+                w.answer(1, person, 1);
+            });
+        }
         walls.add(w -> w.tick(1439));
         walls.add(w -> w.tick(1440));
         for (Steps steps : walls) {

@@ -277,6 +277,11 @@ public final class EdgeSeriesCallsTest extends Edges {
             due(LAST, made(late).often(0, LAST - start + 1));
             refused(STATE, late, w -> w.often(0, LAST - start + 2));
         }
+        // The WEEK goes on after the wall's last DAY, a Thursday, the wall does not.
+        Steps week = w -> w.series(1, 1, 127, 0, LAST - 1);
+        due(LAST, made(week).often(0, 2));
+        refused(STATE, week, w -> w.often(0, 3));
+        refused(STATE, w -> w.series(1, 1, 16, 0, LAST), w -> w.often(0, 1));
         refused(STATE, w -> w.series(2, 12, 30, 0, 31), w -> w.often(0, 1));
         refused(STATE, w -> w.series(4, 1, 101, 0, LAST), w -> w.often(0, 1));
     }
@@ -594,6 +599,64 @@ public final class EdgeSeriesCallsTest extends Edges {
         }
     }
 
+    /** What has rung on 196 DAYS is cut at many of them, and joined again: no DAY rings twice, and each that has not yet rings. */
+    @Says(at = "Promise 18", value = "what has rung, at DAYS before that DAY are of the first piece, all others of the new one.")
+    static void whatHasRungLongAgoOfBothPieces() {
+        for (int cut : new int[] {1, 2, 62, 63, 64, 65, 66, 127, 128, 129, 191, 192, 193, 195}) {
+            Steps steps = w -> {
+                w.series(0, 1, 0, 0, 0);
+                w.remind(0, 0);
+                for (int n = 0; n < 14; n++) {
+                    w.tick(20160);
+                }
+                w.until(0, 195);
+                w.cut(0, cut);
+            };
+            // Some DAYS on both sides of the cut, and at both ends, MOVED to minutes that are yet to come.
+            for (int day : new int[] {0, 1, cut - 2, cut - 1, cut, cut + 1, 63, 64, 65, 127, 128, 194, 195}) {
+                if (day < 0 || day > 195) {
+                    continue;
+                }
+                Daywall w = made(steps);
+                w.move(day < cut ? 0 : 1, day, 197, 0);
+                due(0, w.tick(2880));
+                Daywall v = made(steps);
+                v.join(0, 1);
+                v.move(0, day, 197, 0);
+                due(0, v.tick(2880));
+                Daywall u = made(steps);
+                u.until(0, 195);
+                u.move(0, day, 197, 0);
+                due(day < cut ? 0 : 1, u.tick(2880));
+            }
+        }
+    }
+
+    /** What has not rung rings of both pieces, and of what is joined of them. */
+    @Says(at = "Promise 18", value = "what has rung, at DAYS before that DAY are of the first piece, all others of the new one.")
+    static void whatHasNotRungRings() {
+        for (int cut : new int[] {1, 2, 3, 4, 5, 9, 70}) {
+            for (boolean isJoined : new boolean[] {false, true}) {
+                Daywall w = made(EdgeSeriesCallsTest::daily);
+                w.remind(0, 0);
+                due(3, w.tick(3 * 1440));
+                w.cut(0, cut);
+                due(1, w.tick(1440));
+                if (isJoined) {
+                    w.join(0, 1);
+                }
+                for (int n = 0; n < 10; n++) {
+                    due(14, w.tick(20160));
+                }
+                StringBuilder last = new StringBuilder();
+                for (int day = 136; day <= 143; day++) {
+                    last.append(' ').append(time(day, 540)).append(isJoined ? "s0" : "s1");
+                }
+                due(last.substring(1), w.rung());
+            }
+        }
+    }
+
     @Says(at = "Promise 18", value = "Returns the number of the new one.")
     static void numberOfTheNewPiece() {
         Daywall w = made(EdgeSeriesCallsTest::daily);
@@ -761,6 +824,16 @@ public final class EdgeSeriesCallsTest extends Edges {
                     refused(STATE, steps, w -> w.join(0, 1));
                 }
             }
+        }
+        // The FORM alone: A and B are bounds of both, and START is a DAY of both rules.
+        int[][][] forms = {{{0, 1, 0, 0, 0}, {5, 1, 0, 0, 113}}, {{1, 1, 16, 0, 0}, {5, 1, 16, 0, date(2001, 4, 27)}},
+            {{2, 1, 1, 1, 0}, {3, 1, 1, 1, date(2000, 5, 1)}}, {{3, 1, 3, 1, 0}, {2, 1, 3, 1, date(2000, 4, 3)}}};
+        for (int[][] two : forms) {
+            refused(STATE, w -> {
+                w.series(two[0][0], two[0][1], two[0][2], two[0][3], 0);
+                w.until(0, two[1][4] - 1);
+                w.series(two[1][0], two[1][1], two[1][2], two[1][3], two[1][4]);
+            }, w -> w.join(0, 1));
         }
         int[][] unlike = {{541, 60, 1, 0, -1}, {540, 61, 1, 0, -1}, {540, 60, 2, 0, -1}, {540, 60, 1, 1, -1}, {540, 60, 1, 0, 0}};
         for (int[] u : unlike) {

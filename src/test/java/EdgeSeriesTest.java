@@ -9,15 +9,15 @@ public final class EdgeSeriesTest extends Edges {
 
     /** The RULE DAYS in a span, found one after the other. */
     private static List<Integer> found(int form, int every, int a, int b, int start, int from, int to) {
-        Daywall w = new Daywall();
-        w.series(form, every, a, b, start);
+        Steps steps = w -> w.series(form, every, a, b, start);
+        Daywall w = made(steps);
         List<Integer> days = new ArrayList<>();
-        for (int day = from; day <= to && day >= 0; day++) {
-            day = w.next(0, day, false);
-            if (day < 0 || day > to) {
-                break;
-            }
+        int day = w.next(0, from, false);
+        while (day >= 0 && day <= to) {
             days.add(day);
+            // A new wall in time: of one there are 512 answers only.
+            w = days.size() % 500 == 0 ? made(steps) : w;
+            day = day < LAST ? w.next(0, day + 1, false) : -1;
         }
         return days;
     }
@@ -375,6 +375,13 @@ public final class EdgeSeriesTest extends Edges {
         }
         due(List.of(), found(4, 4, 229, 0, 366, 0, LAST));
         dueDays(List.of(), 4, 1, 229, 0, 366, 366 + 57, 366 + 60);
+        // Nor is any other DAY a HOLIDAY in those years, or before the first one.
+        Daywall w = new Daywall();
+        w.holiday(4, 229, 0);
+        for (int day : new int[] {0, 57, 58, 60, 366, 366 + 57, 366 + 58, 366 + 59}) {
+            due(0, w.ofDay(day, 7));
+        }
+        due(1, w.ofDay(59, 7));
         // A of 228 is 28 February in each year, whatever B is.
         due(List.of(58, 366 + 58), found(4, 1, 228, 1, 0, 0, 600));
         due(List.of(60, 366 + 59), found(4, 1, 301, 1, 0, 0, 600));
@@ -404,6 +411,16 @@ public final class EdgeSeriesTest extends Edges {
                 due.add(w.easter(year) + a);
             }
             due(due, found(5, 1, a, 0, 0, 0, LAST));
+        }
+        // Each year's, asked by itself: it is that of the DAY's own year.
+        for (int a : new int[] {-80, 0, 240}) {
+            for (int year = 2000; year <= 2099; year++) {
+                Daywall w = new Daywall();
+                w.series(5, 1, a, 0, 0);
+                int day = w.easter(year) + a;
+                due(1, w.on(0, day));
+                due(0, w.on(0, day - 1) + w.on(0, day + 1));
+            }
         }
         // 23 April 2000 is DAY 113; the latest one, + 240, is 21 December 2038.
         dueDays(List.of(33), 5, 1, -80, 0, 0, 30, 36);
@@ -511,7 +528,7 @@ public final class EdgeSeriesTest extends Edges {
     @Says(at = SERIES, value = "An EXCEPTION is at a RULE DAY (one at most; 12 of a SERIES):")
     static void twelveExceptions() {
         Steps full = w -> {
-            tenExceptions(w, 12);
+            exceptionsOfTheFirst(w, 12);
             w.strike(1, 0);
         };
         refused(STATE, full, w -> w.strike(0, 12));
@@ -537,7 +554,7 @@ public final class EdgeSeriesTest extends Edges {
     }
 
     /** Two SERIES, the first with so many EXCEPTIONS. */
-    private static void tenExceptions(Daywall w, int count) {
+    private static void exceptionsOfTheFirst(Daywall w, int count) {
         w.series(0, 1, 0, 0, 0);
         w.series(0, 1, 0, 0, 0);
         for (int k = 0; k < count; k++) {
